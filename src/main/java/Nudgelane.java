@@ -18,9 +18,9 @@ public final class Nudgelane {
 
     public Nudgelane() {
         programs = new Programs();
-        ways = new Ways(programs);
+        ways = new Ways();
         attempts = new Attempts();
-        worths = new Worths(attempts);
+        worths = new Worths();
     }
 
     // ---- programs
@@ -41,13 +41,13 @@ public final class Nudgelane {
     }
 
     public int neighbours(int code) throws IndexOutOfBoundsException {
-        return ways.countBehindOneEdit(checkedForm(code));
+        return ways.countBehindOneEdit(programs, checkedForm(code));
     }
 
     public int distance(int from, int to) throws IndexOutOfBoundsException {
         int start = checkedForm(from);
         int goal = checkedForm(to);
-        ways.goOutward(start);
+        ways.goOutward(programs, start);
         return ways.editsKnown(goal);
     }
 
@@ -56,7 +56,7 @@ public final class Nudgelane {
         int goal = checkedForm(to);
         ways.forget();
         ways.mark(goal);
-        ways.settle();
+        ways.settle(programs);
         return ways.editsKnown(start);
     }
 
@@ -109,7 +109,7 @@ public final class Nudgelane {
 
     public int worth(int code) throws IndexOutOfBoundsException {
         int asked = checkedForm(code);
-        worths.find();
+        worths.find(attempts);
         return worths.of(asked);
     }
 
@@ -127,7 +127,7 @@ public final class Nudgelane {
             throw new IllegalStateException("the program is right");
         }
         findSteps();
-        worths.find();
+        worths.find(attempts);
         return stepNearer(asked);
     }
 
@@ -135,7 +135,7 @@ public final class Nudgelane {
         int reached = checkedForm(code);
         requireSomeRight();
         findSteps();
-        worths.find();
+        worths.find(attempts);
         for (int left = ways.editsKnown(reached); left > 0; left--) {
             reached = stepNearer(reached);
         }
@@ -147,7 +147,7 @@ public final class Nudgelane {
         if (attempts.metCount() == 0) {
             throw new NoSuchElementException("no program was met");
         }
-        ways.goOutward(asked);
+        ways.goOutward(programs, asked);
         int best = NONE;
         int least = Ways.FAR;
         for (int index = 0; index < attempts.metCount(); index++) {
@@ -182,7 +182,7 @@ public final class Nudgelane {
                 ways.mark(form);
             }
         }
-        ways.settle();
+        ways.settle(programs);
     }
 
     /** Steps and worths must have been found before. */
@@ -265,7 +265,6 @@ public final class Nudgelane {
             return formOf(without(form, place) + statement * weightOf(place));
         }
 
-        /** What a statement 1 in a place counts in a code. */
         static int weightOf(int place) {
             int weight = 1;
             for (int later = place + 1; later < PLACES; later++) {
@@ -274,7 +273,6 @@ public final class Nudgelane {
             return weight;
         }
 
-        /** The code with nothing in a place. */
         static int without(int code, int place) {
             int weight = weightOf(place);
             return weight > 0 ? code - code / weight % STATEMENTS * weight : code;
@@ -355,12 +353,10 @@ public final class Nudgelane {
         /** Above every distance: what is not known yet. */
         static final int FAR = 1000000;
 
-        private final Programs programs;
         private final Row known;
         private final Row queue;
 
-        Ways(Programs programs) {
-            this.programs = programs;
+        Ways() {
             known = new Row(CODES);
             queue = new Row(CODES);
         }
@@ -377,23 +373,23 @@ public final class Nudgelane {
             known.set(form, 0);
         }
 
-        int countBehindOneEdit(int form) {
+        int countBehindOneEdit(Programs programs, int form) {
             forget();
             mark(form);
-            return queueNewBehind(form, 1);
+            return queueNewBehind(programs, form, 1);
         }
 
-        void goOutward(int from) {
+        void goOutward(Programs programs, int from) {
             forget();
             mark(from);
             queue.set(0, from);
             int queued = 1;
             for (int head = 0; head < queued && head < CODES; head++) {
-                queued = queueNewBehind(queue.get(head), queued);
+                queued = queueNewBehind(programs, queue.get(head), queued);
             }
         }
 
-        private int queueNewBehind(int form, int queuedBefore) {
+        private int queueNewBehind(Programs programs, int form, int queuedBefore) {
             int queued = queuedBefore;
             for (int place = 0; place < PLACES; place++) {
                 int weight = Programs.weightOf(place);
@@ -411,18 +407,18 @@ public final class Nudgelane {
         }
 
         /** Finds how many edits lead from each form to the nearest of the marked ones. */
-        void settle() {
+        void settle(Programs programs) {
             boolean goesOn = true;
             for (int round = 0; goesOn && round < CODES; round++) {
-                goesOn = settleOnce();
+                goesOn = settleOnce(programs);
             }
         }
 
-        private boolean settleOnce() {
+        private boolean settleOnce(Programs programs) {
             boolean hasChanged = false;
             for (int code = 0; code < CODES; code++) {
                 if (programs.isForm(code)) {
-                    int edits = leastBehind(code) + 1;
+                    int edits = leastBehind(programs, code) + 1;
                     if (edits < known.get(code)) {
                         known.set(code, edits);
                         hasChanged = true;
@@ -432,7 +428,7 @@ public final class Nudgelane {
             return hasChanged;
         }
 
-        private int leastBehind(int form) {
+        private int leastBehind(Programs programs, int form) {
             int least = FAR;
             for (int place = 0; place < PLACES; place++) {
                 int weight = Programs.weightOf(place);
@@ -572,12 +568,10 @@ public final class Nudgelane {
         private static final int ROUNDS = 60;
         private static final int CERTAIN = 1000000;
 
-        private final Attempts attempts;
         private final Row worthNow;
         private final Row sums;
 
-        Worths(Attempts attempts) {
-            this.attempts = attempts;
+        Worths() {
             worthNow = new Row(CODES);
             sums = new Row(CODES);
         }
@@ -586,15 +580,15 @@ public final class Nudgelane {
             return worthNow.get(form);
         }
 
-        void find() {
+        void find(Attempts attempts) {
             worthNow.fill(0);
             for (int round = 0; round < ROUNDS; round++) {
-                addUp();
-                share();
+                addUp(attempts);
+                share(attempts);
             }
         }
 
-        private void addUp() {
+        private void addUp(Attempts attempts) {
             for (int index = 0; index < attempts.metCount(); index++) {
                 int form = attempts.metForm(index);
                 sums.set(form, attempts.rightEndings(form) * CERTAIN);
@@ -604,7 +598,7 @@ public final class Nudgelane {
             }
         }
 
-        private void share() {
+        private void share(Attempts attempts) {
             for (int index = 0; index < attempts.metCount(); index++) {
                 int form = attempts.metForm(index);
                 int parts = attempts.leavingsOf(form);

@@ -270,6 +270,7 @@ public final class PromisesTest {
         y.pass(a);
         y.end(true);
         due("worth with a loop, behind 60 rounds", y.worth(a), 999999);
+        due("the same asked again", y.worth(a), 999999);
         Nudgelane z = new Nudgelane();
         z.begin(a);
         for (int passing = 1; passing <= 59; passing++) {
@@ -371,6 +372,19 @@ public final class PromisesTest {
         due("lead to the nearer one", x.lead(0), code(5, 0, 0, 0));
         due("lead from a code of a right one", x.lead(code(0, 0, 0, 5)), code(5, 0, 0, 0));
         due("lead stays at the right one", x.lead(code(1, 2, 3, 4)), code(1, 2, 3, 4));
+        Nudgelane y = new Nudgelane();
+        y.begin(code(1, 0, 0, 0));
+        y.end(true);
+        y.begin(code(1, 0, 0, 0));
+        y.end(false);
+        y.begin(code(4, 0, 0, 0));
+        y.end(true);
+        due("lead to the worthier one", y.lead(0), code(4, 0, 0, 0));
+        Nudgelane z = new Nudgelane();
+        z.begin(code(1, 0, 0, 0));
+        z.end(true);
+        due("lead against the greater code", z.lead(code(2, 0, 0, 0)), code(1, 0, 0, 0));
+        due("lead behind no other right one", z.lead(code(4, 4, 4, 4)), code(1, 0, 0, 0));
     }
 
     private static void promise18Nearest() {
@@ -386,6 +400,9 @@ public final class PromisesTest {
         x.end(false);
         due("nearest of the least code", x.nearest(0), code(4, 0, 0, 0));
         due("nearest is itself", x.nearest(code(0, 0, 0, 5)), code(5, 0, 0, 0));
+        x.begin(code(5, 5, 0, 0));
+        x.end(false);
+        due("nearest of the least code, which was not met last", x.nearest(code(5, 4, 0, 0)), code(4, 0, 0, 0));
         due("nearest by distance", x.nearest(code(1, 2, 3, 0)), code(1, 2, 3, 4));
         for (int bad : NO_CODES) {
             dueThrow("nearest(" + bad + ")", () -> x.nearest(bad), INDEX);
