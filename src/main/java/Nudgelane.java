@@ -214,16 +214,12 @@ public final class Nudgelane {
             cells = new int[length > 0 ? length : 0];
         }
 
-        private boolean holds(int index) {
-            return index >= 0 && index < cells.length;
-        }
-
         int get(int index) {
-            return holds(index) ? cells[index] : 0;
+            return index >= 0 && index < cells.length ? cells[index] : 0;
         }
 
         void set(int index, int value) {
-            if (holds(index)) {
+            if (index >= 0 && index < cells.length) {
                 cells[index] = value;
             }
         }
